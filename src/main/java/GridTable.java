@@ -456,9 +456,8 @@ public final class GridTable {
                 int rest = afterBlanks(tape, position);
                 add(tape.get(rest) < 0 ? END : BAD, rest, 0);
             }
-            kind = NAME;
-            at = -1;
-            advance();
+            at = 0;
+            kind = size > 0 ? kinds[0] : BAD;
         }
 
         /** What the next token is; BAD from the first error 1 on, which no line goes on with. */
@@ -1338,7 +1337,7 @@ public final class GridTable {
 
         /** The point behind the one at i. */
         int next(int i) {
-            int k = follower(i);
+            int k = i + 1 < size ? i + 1 : 0;
             return k >= 0 && k < size && k < points.length ? points[k] : -1;
         }
 
@@ -1378,7 +1377,7 @@ public final class GridTable {
         /** Whether of some three corners that follow each other the last one lies right of the first two. */
         boolean turnsRight(Places at) {
             for (int i = 0; i < size; i++) {
-                int last = next(follower(i));
+                int last = next(i + 1 < size ? i + 1 : 0);
                 if (at.side(get(i), next(i), at.x(last), at.y(last)) < 0) {
                     return true;
                 }
@@ -1477,10 +1476,6 @@ public final class GridTable {
                 }
             }
             return best;
-        }
-
-        private int follower(int i) {
-            return i + 1 < size ? i + 1 : 0;
         }
 
         private static int divisor(int one, int other) {

@@ -19,6 +19,7 @@ public final class ByHandTest {
         turn();
         flip();
         sums();
+        deepestSums();
         sumsThatWrap();
         sumsOfPlaces();
         relations();
@@ -361,6 +362,26 @@ public final class ByHandTest {
         dueSum("crosses s t", 1);
         dueSum("crosses t s*10+crosses s s", 10);
         dueSum("((((((9))))))-1", 8);
+    }
+
+    /** Sums and tests that leave as much waiting as the depth allows. */
+    private static void deepestSums() {
+        StringBuilder sum = new StringBuilder();
+        int wanted = 1 + 2 * 3;
+        // dueSum() adds two to the depth.
+        for (int i = 0; i < 6; i++) {
+            sum.append("1+2*max(0,");
+            wanted = 1 + 2 * wanted;
+        }
+        sum.append("1+2*3").append(Lists.repeat(")", 6));
+        dueSum(sum.toString(), wanted);
+        StringBuilder mixed = new StringBuilder("1=2 or 1=1 and ");
+        for (int i = 0; i < 4; i++) {
+            mixed.append("[1=2 or 1=1 and ");
+        }
+        mixed.append("9+2*max(1,9-2*max(2,9+3*max(3,9*max(4,5)))) < 0-1");
+        dueTest(mixed + Lists.repeat("]", 4), 0);
+        dueTest(mixed.toString().replace("< 0-1", "= 11") + Lists.repeat("]", 4), 1);
     }
 
     private static void sumsThatWrap() {

@@ -27,6 +27,7 @@ public final class LanguageTest {
         firstError();
         errorKeepsAll();
         teachBeginsAnew();
+        teachManyTimes();
         errorAt();
         count();
         CHECK.end();
@@ -346,6 +347,11 @@ public final class LanguageTest {
         dueSum(Lists.repeat("max(", 9) + "1" + Lists.repeat(",2)", 9), 1, 35);
         dueSum(Lists.repeat("min(0,", 8) + "1" + Lists.repeat(")", 8), 0, 0);
         dueSum(Lists.repeat("min(0,", 8) + "-1" + Lists.repeat(")", 8), 1, 48);
+        // The depth is 0 again behind the comma.
+        good("point a at " + eight + "1" + Lists.repeat(")", 8) + "," + eight + "1" + Lists.repeat(")", 8) + ";");
+        due("point a at -1," + eight + "-1" + Lists.repeat(")", 8) + ";", 1, 22);
+        goodBehind("move a by " + eight + "1" + Lists.repeat(")", 8) + "," + eight + "1" + Lists.repeat(")", 8) + ";");
+        dueBehind("move a by -1," + eight + "-1" + Lists.repeat(")", 8) + ";", 1, 21);
         // The depth goes back behind what was turned, and behind the last bracket.
         dueSum("-1-" + Lists.repeat("-", 8) + "1", 0, 0);
         dueSum("-(1)*" + eight + "1" + Lists.repeat(")", 8) + "-" + eight + "1" + Lists.repeat(")", 8), 0, 0);
@@ -560,6 +566,32 @@ public final class LanguageTest {
         CHECK.due("carried out", table.count(3) + table.step(0, 4), 0);
     }
 
+    /** Lists of which each has other shapes, corners and steps than the one ahead of it. */
+    private static void teachManyTimes() {
+        GridTable table = new GridTable();
+        for (int i = 0; i < 12; i++) {
+            int corners = 3 + i * 5 % 6;
+            StringBuilder list = new StringBuilder(points(8 + i % 3));
+            list.append("shape s of");
+            for (int k = 0; k < corners; k++) {
+                list.append(" p").append((i + k) % 8);
+            }
+            list.append(i % 2 == 0 ? ";move p1 by 1,1;" : ";shape t of p3 p4 p5;");
+            CHECK.due("teach", Lists.teach(table, list.toString()), 0);
+            CHECK.due("points", table.count(0), 8 + i % 3);
+            CHECK.due("shapes", table.count(1), 1 + i % 2);
+            CHECK.due("steps", table.count(2), 1 - i % 2);
+            CHECK.due("corners", table.shape(0, 0), corners);
+            for (int k = 0; k < corners; k++) {
+                CHECK.due("corner " + k, table.corner(0, k), (i + k) % 8);
+            }
+            CHECK.due("x", table.point(7, 0), 7);
+            CHECK.due("y", table.point(7, 1), 49);
+            CHECK.due("run", table.run(), 1 - i % 2);
+            CHECK.due("carried out", table.count(3), 1 - i % 2);
+        }
+    }
+
     private static void errorAt() {
         GridTable table = new GridTable();
         Lists.teach(table, "   ;");
@@ -598,5 +630,20 @@ public final class LanguageTest {
         CHECK.due("nothing can be taken back", table.count(4), 0);
         table.carry(0);
         CHECK.due("one more", table.count(3), 3);
+        countInside();
+    }
+
+    private static void countInside() {
+        GridTable table = Lists.taught("point q at 4,4;point a at 0,0;point b at 9,0;point c at 9,9;point d at 0,9;"
+            + "point r at 5,5;shape s of a b c d;shape t of a b c d;");
+        CHECK.due("the first and the last point, each once", table.count(7), 2);
+        table.put(0, 9, 4);
+        CHECK.due("the last point", table.count(7), 1);
+        table.put(5, -1, 4);
+        CHECK.due("none", table.count(7), 0);
+        table.put(0, 8, 4);
+        CHECK.due("the first point", table.count(7), 1);
+        table.put(3, 6, 0);
+        CHECK.due("the points stay as the shape goes", table.count(7), 0);
     }
 }

@@ -276,6 +276,8 @@ public final class ShapesTest {
         dueHull(list(0, 10, 10, 10, 10, 0, 0, 0), 200, 200, 3, 2, 1, 0);
         dueHull(list(0, 0, 10, 0, 10, 10, 5, 5), 100, 200, 0, 1, 2);
         dueHull(list(5, 1, 0, 0, 10, 0, 5, 9, 4, 3), 90, 106, 1, 2, 3);
+        dueHull(list(0, 0, 1, 0, 1, 1, 0, 1), 2, 2, 0, 1, 2, 3);
+        dueHull(list(1, 0, 0, 0, 2, 0, 0, 1, 0, 2), 4, 8, 1, 2, 4);
         // Corners that lie between two others, on each edge.
         dueHull(list(5, 0, 10, 0, 10, 5, 10, 10, 5, 10, 0, 10, 0, 5, 0, 0), 200, 200, 7, 1, 3, 5);
         dueHull(list(0, 3, 0, 7, 0, 5, 1, 9, 2, 2), 17, 50, 0, 4, 3, 1);
