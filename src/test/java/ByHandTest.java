@@ -1,3 +1,6 @@
+import java.util.ArrayList;
+import java.util.List;
+
 /** Promises 16 to 20, and what the document says of steps, tests, sums and of what was done. */
 public final class ByHandTest {
     private static final Check CHECK = new Check("by hand");
@@ -14,6 +17,8 @@ public final class ByHandTest {
         runByTurn();
         undo();
         undoOfTwelve();
+        undoOfAllSorts();
+        undoOfAnything();
         step();
         move();
         turn();
@@ -101,10 +106,36 @@ public final class ByHandTest {
             many.append("move a by 1,").append(i).append(';');
         }
         GridTable most = Lists.taught(many.toString());
+        CHECK.due("would of twenty steps", most.would(0), 20);
         CHECK.due("run of twenty steps", most.run(), 20);
         duePlace(most, 0, 20, 190);
         CHECK.due("run again", most.run(), 20);
         CHECK.due("count of forty", most.count(3), 40);
+        for (int i = 0; i < 20; i++) {
+            CHECK.due("times of step " + i, most.step(i, 4), 2);
+        }
+        CHECK.dueIndex("the step behind the last one", () -> most.carry(20) ? 1 : 0);
+        runOfDeepSteps();
+    }
+
+    /** Twenty steps with tests, the last one as deep as a step can be. */
+    private static void runOfDeepSteps() {
+        StringBuilder many = new StringBuilder(ABC);
+        for (int i = 0; i < 19; i++) {
+            many.append("move a by 1,2 when 1=1;");
+        }
+        StringBuilder deep = new StringBuilder();
+        int value = 1 + 2 * 3;
+        for (int i = 0; i < 8; i++) {
+            deep.append("1+2*max(0,");
+            value = 1 + 2 * value;
+        }
+        deep.append("1+2*3").append(Lists.repeat(")", 8));
+        many.append("move b by ").append(deep).append("-1700,4 when 1=1;");
+        GridTable table = Lists.taught(many.toString());
+        CHECK.due("run", table.run(), 20);
+        duePlace(table, 0, 19, 38);
+        duePlace(table, 1, 10 + value - 1700, 4);
     }
 
     /** A step's test is looked at as it comes to its turn, behind those ahead of it. */
@@ -194,6 +225,86 @@ public final class ByHandTest {
         CHECK.due("kept", table.count(4), 0);
     }
 
+    /** Twelve things are kept, whatever they are, and a carry() that is not carried out is none of them. */
+    private static void undoOfAllSorts() {
+        GridTable table = Lists.taught(ABCS + "move a by 1,0;move b by 0,0;move c by 5,5 when 1=2;");
+        for (int i = 0; i < 5; i++) {
+            table.put(1, 10, i + 1);
+            table.carry(2);
+            table.carry(1);
+            table.run();
+        }
+        // Fifteen things: the first put, the first carry and the first run are not kept any more.
+        CHECK.due("kept", table.count(4), 12);
+        for (int i = 4; i >= 1; i--) {
+            CHECK.due("undo of a run", table.undo(), 1);
+            duePlace(table, 0, i, 0);
+            CHECK.due("undo of a carry that moved nothing", table.undo(), 0);
+            CHECK.due("undo of a put", table.undo(), 1);
+            duePlace(table, 1, 10, i);
+        }
+        CHECK.due("kept", table.count(4), 0);
+        CHECK.dueState("undo of no more", table::undo);
+        duePlace(table, 0, 1, 0);
+        duePlace(table, 1, 10, 1);
+        duePlace(table, 2, 0, 10);
+        CHECK.due("steps in all", table.count(3), 15);
+    }
+
+    private static int[] places(GridTable table) {
+        int[] out = new int[6];
+        for (int i = 0; i < 6; i++) {
+            out[i] = table.point(i / 2, i % 2);
+        }
+        return out;
+    }
+
+    private static void undoOfAnything() {
+        for (int seed = 0; seed < 60; seed++) {
+            Dice dice = new Dice(seed);
+            GridTable table = Lists.taught(ABCS + "move a by 1,0 when x a<3;turn s round b;flip s at c when x b>x a;"
+                + "move c by 0,0;");
+            List<int[]> kept = new ArrayList<>();
+            int carried = 0;
+            for (int n = 0; n < 30; n++) {
+                int[] before = places(table);
+                int sort = dice.below(seed % 2 == 0 ? 5 : 4);
+                if (sort >= 3) {
+                    undoOne(table, kept, before);
+                    continue;
+                }
+                int more = sort == 0 ? 0 * table.put(dice.below(3), dice.from(-9, 9), dice.from(-9, 9))
+                    : sort == 1 ? table.run() : table.carry(dice.below(4)) ? 1 : 0;
+                if (sort < 2 || more > 0) {
+                    kept.add(before);
+                }
+                if (kept.size() > 12) {
+                    kept.remove(0);
+                }
+                carried += more;
+                CHECK.due("kept", table.count(4), kept.size());
+                CHECK.due("carried out", table.count(3), carried);
+            }
+        }
+    }
+
+    private static void undoOne(GridTable table, List<int[]> kept, int[] before) {
+        if (kept.isEmpty()) {
+            CHECK.dueState("undo of nothing", table::undo);
+            return;
+        }
+        int[] due = kept.remove(kept.size() - 1);
+        int moved = 0;
+        for (int i = 0; i < 6; i += 2) {
+            moved += due[i] != before[i] || due[i + 1] != before[i + 1] ? 1 : 0;
+        }
+        CHECK.due("undo", table.undo(), moved);
+        for (int i = 0; i < 6; i++) {
+            CHECK.due("place behind undo", table.point(i / 2, i % 2), due[i]);
+        }
+        CHECK.due("kept", table.count(4), kept.size());
+    }
+
     private static void step() {
         GridTable table = Lists.taught(ABCS + "shape t of c b a;move b by 1,2;turn t round c;flip s at b when x a=1;"
             + "move c by 0,0 when not x a=1;");
@@ -231,6 +342,17 @@ public final class ByHandTest {
         duePlace(far, 0, -999, 999);
         far.carry(1);
         duePlace(far, 0, -999, 999);
+        // The greatest and the least number, which would wrap around if they were added in 32 bits.
+        GridTable most = Lists.taught("point a at 999,-999;point b at 1,-1;"
+            + "move a by 2147*500000*2+483647,0-2147*500000*2-483648;"
+            + "move b by 2147*500000*2+483647,0-2147*500000*2-483648;"
+            + "move b by 0-2147*500000*2-483648,2147*500000*2+483647;");
+        most.carry(0);
+        duePlace(most, 0, 999, -999);
+        most.carry(1);
+        duePlace(most, 1, 999, -999);
+        most.carry(2);
+        duePlace(most, 1, -999, 999);
         GridTable edge = Lists.taught("point a at 998,-998;move a by 1,-1;");
         edge.carry(0);
         duePlace(edge, 0, 999, -999);

@@ -12,6 +12,7 @@ public final class LanguageTest {
         feed();
         feedOrder();
         trim();
+        fullTape();
         lists();
         words();
         numbers();
@@ -28,6 +29,7 @@ public final class LanguageTest {
         errorKeepsAll();
         teachBeginsAnew();
         teachManyTimes();
+        teachManyLongLists();
         errorAt();
         count();
         CHECK.end();
@@ -151,6 +153,28 @@ public final class LanguageTest {
         due("point a at 1,2;\t", 1, 15);
         due("point a\rat 1,2;", 1, 7);
         due("point a at 1,2;\0", 1, 15);
+    }
+
+    /** All 2000 bytes are read, and the end of such a tape is at 2000. */
+    private static void fullTape() {
+        String line = "point a at 1,2;";
+        good(Lists.repeat(" ", 2000));
+        good(Lists.repeat("\n", 2000));
+        good(Lists.repeat(" ", 2000 - line.length()) + line);
+        good(line + Lists.repeat(" \n", 990) + "     ");
+        due(Lists.repeat(" ", 1999) + ";", 1, 1999);
+        due(Lists.repeat("\n", 1999) + "?", 1, 1999);
+        due(Lists.repeat(" ", 1986) + "point a at 1,2", 1, 2000);
+        due(Lists.repeat(" ", 1988) + "point a at 1", 1, 2000);
+        due(Lists.repeat(" ", 1983) + "point a at 123456", 1, 2000);
+        due(Lists.repeat(" ", 1982) + "point a at 1234567", 1, 1993);
+        due(Lists.repeat(" ", 1984) + "point abcdefghij", 1, 2000);
+        due(Lists.repeat(" ", 1983) + "point abcdefghijk", 1, 1989);
+        GridTable table = new GridTable();
+        CHECK.due("teach of a full tape", Lists.teach(table, line + Lists.repeat(" ", 1970) + "point b at 3,4;"), 0);
+        CHECK.due("points", table.count(0), 2);
+        CHECK.due("the tape behind it", table.count(8), 0);
+        CHECK.due("feed behind it", table.feed(0, 0, 0, 0, 0), 20);
     }
 
     private static void words() {
@@ -325,6 +349,12 @@ public final class LanguageTest {
         dueSum("crosses s s s", 1, 12);
         dueSum("min(1,2)", 0, 0);
         dueSum("min 1,2", 1, 4);
+        dueSum("min", 1, 3);
+        dueSum("max", 1, 3);
+        dueSum("1+min", 1, 5);
+        dueSum("min[1,2]", 1, 3);
+        dueSum("min-1", 1, 3);
+        dueSum("min x a", 1, 4);
         dueSum("min(1)", 1, 5);
         dueSum("min(1,2", 1, 7);
         dueSum("max(1,2,3)", 1, 7);
@@ -518,6 +548,15 @@ public final class LanguageTest {
         due("point a at 1,2;point a at x q,2", 1, 31);
         dueBehind("move q by x r,2 when inside z z", 1, 31);
         dueBehind("turn q round r;", 3, 5);
+        due("point a at x q,2;abcdefghijk", 1, 17);
+        due("point a at x q,2;1234567", 1, 17);
+        due("point a at x q,2; \u00e9", 1, 18);
+        due("point a at x q,---------2;", 1, 23);
+        dueBehind("point d at x q,2;point a at 1,2;turn r round a;", 3, 13);
+        dueBehind("point a at x q,2;turn r round a;", 2, 6);
+        dueBehind("shape t of a b q a;", 3, 15);
+        dueBehind("shape t of a b b q;", 5, 15);
+        dueBehind("move a by 1,2 when area r<x q;", 3, 24);
         dueBehind("shape t of a a b 1;", 1, 17);
         dueBehind("shape t of a a b;shape s of a b c;", 5, 13);
     }
@@ -590,6 +629,25 @@ public final class LanguageTest {
             CHECK.due("run", table.run(), 1 - i % 2);
             CHECK.due("carried out", table.count(3), 1 - i % 2);
         }
+    }
+
+    /** Lists that have, taken together, far more sums than one of them could have, and errors between them. */
+    private static void teachManyLongLists() {
+        GridTable table = new GridTable();
+        for (int i = 0; i < 8; i++) {
+            String sums = sumOf(90 + i) + "," + sumOf(40);
+            String list = ABCS + "move a by " + sums + " when " + sumOf(30) + "=" + (30 + i % 2) + ";";
+            CHECK.due("teach of a long list", Lists.teach(table, list), 0);
+            CHECK.due("whether its test holds", table.step(0, 3), 1 - i % 2);
+            CHECK.due("carry", table.carry(0) ? 1 : 0, 1 - i % 2);
+            CHECK.due("x", table.point(0, 0), i % 2 == 0 ? 90 + i : 0);
+            CHECK.due("y", table.point(0, 1), i % 2 == 0 ? 40 : 0);
+            CHECK.due("teach with an error", Lists.teach(table, "point a at " + sums + ";move b by " + sums), 1);
+            CHECK.due("x behind it", table.point(0, 0), i % 2 == 0 ? 90 + i : 0);
+        }
+        CHECK.due("teach of a point", Lists.teach(table, "point a at " + sumOf(150) + "," + sumOf(40) + ";"), 0);
+        CHECK.due("its x", table.point(0, 0), 150);
+        CHECK.due("its y", table.point(0, 1), 40);
     }
 
     private static void errorAt() {

@@ -20,6 +20,7 @@ public final class ShapesTest {
         liesOfRays();
         crosses();
         crossesOfTouching();
+        crossesOfTwoEdges();
         hull();
         hullOfPlaces();
         nearest();
@@ -252,6 +253,45 @@ public final class ShapesTest {
         CHECK.due("a turned triangle", crossings(-2, 7, 7, 7, 3, -4), 6);
     }
 
+    /**
+     * Two shapes that go along an edge and back, so that each pair of directions counts once: 4 if both edges cross.
+     */
+    private static void dueEdges(int wanted, int... ends) {
+        StringBuilder text = new StringBuilder();
+        for (int i = 0; i < 8; i += 2) {
+            text.append("point p").append(i).append(" at ").append(sign(ends[i])).append(',').append(sign(ends[i + 1]))
+                .append(";point p").append(i + 1).append(" at x p").append(i).append(",y p").append(i).append(';');
+        }
+        GridTable table = Lists.taught(text + "shape s of p0 p2 p1;shape t of p4 p6 p5;");
+        CHECK.due("two edges of " + text, table.crosses(0, 1), wanted);
+        CHECK.due("the same round of " + text, table.crosses(1, 0), wanted);
+        CHECK.due("an edge and back of " + text, table.crosses(0, 0), 0);
+    }
+
+    private static void crossesOfTwoEdges() {
+        // All four ends are as near to the other edge's line as they can be.
+        dueEdges(4, 0, 0, 3, 2, 1, 1, 2, 1);
+        dueEdges(4, 0, 0, 4, 0, 2, -1, 2, 5);
+        // One end lies on the other edge, or on its line.
+        dueEdges(0, 0, 0, 4, 0, 2, 0, 2, 5);
+        dueEdges(0, 0, 0, 4, 0, 2, 0, 2, -5);
+        dueEdges(0, 0, 0, 0, 4, 0, 2, 5, 2);
+        dueEdges(0, 0, 0, 0, 4, 0, 2, -5, 2);
+        dueEdges(0, 0, 0, 4, 0, 9, 0, 2, 5);
+        dueEdges(0, 0, 0, 4, 4, 2, 2, 0, 4);
+        // The edge would have to be longer by 1.
+        dueEdges(0, 0, 0, 4, 0, 2, 1, 2, 5);
+        dueEdges(0, 0, 0, 4, 0, 5, -3, 5, 3);
+        // Ends meet, or both lie on one line, or have no length.
+        dueEdges(0, 0, 0, 4, 0, 4, 0, 7, 5);
+        dueEdges(0, 0, 0, 4, 0, 2, 0, 9, 0);
+        dueEdges(0, 0, 0, 4, 0, 0, 0, 4, 0);
+        dueEdges(0, 0, 0, 4, 0, 2, 0, 2, 0);
+        dueEdges(0, 0, 0, 4, 0, 0, 3, 4, 3);
+        dueEdges(4, -999, -999, 999, 999, -999, 999, 999, -999);
+        dueEdges(4, -999, -998, 999, 999, -998, -998, 998, 999);
+    }
+
     private static void dueHull(String text, int area, int widest, int... corners) {
         GridTable table = Lists.taught(text);
         CHECK.due("hull 0 of " + text, table.hull(0, 0), corners.length);
@@ -277,6 +317,10 @@ public final class ShapesTest {
         dueHull(list(0, 0, 10, 0, 10, 10, 5, 5), 100, 200, 0, 1, 2);
         dueHull(list(5, 1, 0, 0, 10, 0, 5, 9, 4, 3), 90, 106, 1, 2, 3);
         dueHull(list(0, 0, 1, 0, 1, 1, 0, 1), 2, 2, 0, 1, 2, 3);
+        dueHull(list(10, 10, 10, 20, 5, 15), 50, 100, 2, 0, 1);
+        dueHull(list(5, 0, 0, 9, 9, 9), 81, 106, 1, 0, 2);
+        dueHull(list(3, 3, 3, 1, 9, 2), 12, 37, 1, 2, 0);
+        dueHull(list(-999, -999, 999, -999, 999, 999, -999, 999), 2 * 1998 * 1998, 2 * 1998 * 1998, 0, 1, 2, 3);
         dueHull(list(1, 0, 0, 0, 2, 0, 0, 1, 0, 2), 4, 8, 1, 2, 4);
         // Corners that lie between two others, on each edge.
         dueHull(list(5, 0, 10, 0, 10, 5, 10, 10, 5, 10, 0, 10, 0, 5, 0, 0), 200, 200, 7, 1, 3, 5);
