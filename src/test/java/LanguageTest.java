@@ -28,6 +28,7 @@ public final class LanguageTest {
         firstError();
         errorKeepsAll();
         teachBeginsAnew();
+        teachFewer();
         teachManyTimes();
         teachManyLongLists();
         errorAt();
@@ -379,6 +380,8 @@ public final class LanguageTest {
         dueSum(Lists.repeat("min(0,", 8) + "-1" + Lists.repeat(")", 8), 1, 48);
         // The depth is 0 again behind the comma.
         good("point a at " + eight + "1" + Lists.repeat(")", 8) + "," + eight + "1" + Lists.repeat(")", 8) + ";");
+        due("point a at " + eight + "-1" + Lists.repeat(")", 8) + ",1;", 1, 19);
+        due("point a at " + eight + "(1" + Lists.repeat(")", 9) + ",1;", 1, 19);
         due("point a at -1," + eight + "-1" + Lists.repeat(")", 8) + ";", 1, 22);
         goodBehind("move a by " + eight + "1" + Lists.repeat(")", 8) + "," + eight + "1" + Lists.repeat(")", 8) + ";");
         dueBehind("move a by -1," + eight + "-1" + Lists.repeat(")", 8) + ";", 1, 21);
@@ -603,6 +606,30 @@ public final class LanguageTest {
         CHECK.due("the first list again", Lists.teach(table, ABCS + "move a by 1,2;turn s round b;"), 0);
         CHECK.due("as it is at first", table.point(0, 0) + table.point(2, 1), 9);
         CHECK.due("carried out", table.count(3) + table.step(0, 4), 0);
+    }
+
+    /** What an earlier list told is not there any more, behind any number of lists that tell less. */
+    private static void teachFewer() {
+        GridTable table = Lists.taught(ABCS + "point d at 1,1;shape t of c b a;move d by 1,1;turn t round a;");
+        for (int i = 0; i < 4; i++) {
+            CHECK.due("teach of fewer", Lists.teach(table, ABCS + "move a by 1,2;"), 0);
+            CHECK.dueIndex("point behind the last one", () -> table.point(3, 0));
+            CHECK.dueIndex("lies of it", () -> table.lies(3, 0));
+            CHECK.dueIndex("enter of it", () -> table.enter(3, 0));
+            CHECK.dueIndex("put of it", () -> table.put(3, 0, 0));
+            CHECK.dueIndex("shape behind the last one", () -> table.shape(1, 0));
+            CHECK.dueIndex("corner of it", () -> table.corner(1, 0));
+            CHECK.dueIndex("lies in it", () -> table.lies(0, 1));
+            CHECK.dueIndex("crosses with it", () -> table.crosses(0, 1));
+            CHECK.dueIndex("crosses of it", () -> table.crosses(1, 0));
+            CHECK.dueIndex("hull of it", () -> table.hull(1, 0));
+            CHECK.dueIndex("hullCorner of it", () -> table.hullCorner(1, 0));
+            CHECK.dueIndex("enter into it", () -> table.enter(0, 1));
+            CHECK.dueIndex("step behind the last one", () -> table.step(1, 0));
+            CHECK.dueIndex("carry of it", () -> table.carry(1) ? 1 : 0);
+            CHECK.dueIndex("without it", () -> table.without(1));
+            CHECK.due("run", table.run(), 1);
+        }
     }
 
     /** Lists of which each has other shapes, corners and steps than the one ahead of it. */
